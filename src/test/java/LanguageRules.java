@@ -1,0 +1,104 @@
+import java.lang.reflect.Field;
+import java.lang.reflect.Method;
+import java.lang.reflect.Modifier;
+import java.nio.charset.StandardCharsets;
+import java.nio.file.Files;
+import java.nio.file.Path;
+import java.util.ArrayList;
+import java.util.Collections;
+import java.util.List;
+import java.util.Set;
+import java.util.TreeSet;
+import java.util.regex.Matcher;
+import java.util.regex.Pattern;
+
+/** What of ../shared/LANGUAGE.md can be seen in the program's text and in the class that is made of it. */
+final class LanguageRules {
+    private static final String[] BANNED = {"\\bthrow\\b", "\\bthrows\\b", "\\btry\\b", "\\bcatch\\b", "\\bsynchronized\\b", "\\bassert\\b",
+        "->", "::", "\\bimport\\b", "\\bpackage\\b", "\\bprotected\\b", "\\bnative\\b", "\\bvolatile\\b", "\\btransient\\b",
+        "Exact\\b", "\\bSystem\\.(?!arraycopy\\b)", "\\bhashCode\\b", "\\bequals\\b", "\\btoString\\b", "\\bstatic\\s*\\{", "@", "\"",
+        "\\bdouble\\b", "\\bfloat\\b", "\\bThread\\b", "\\bRandom\\b", "Math\\.(?!abs\\b|floorDiv\\b|floorMod\\b)", "\\bwhile\\b"};
+    private static final String FACE = "int alike(int,int)|int as(int,int)|int ask(int,int)|int associate(int,int,int)|int axis(int,int)|int back(int,int)"
+        + "|int cell(int,int)|int clear(int)|int copy(int,int,int,int,int)|int drop(int)|int greatest(int,int,int,int)|int index(int)"
+        + "|int is(int,int)|int kind(int)|int list(int,int,int)|int many(int)|int norm(int)|int order(int)|int over(int,int,int,int,int)"
+        + "|int part(int,int,int)|int plain(int,int)|int squares(int)|int status()|int sum(int,int,int)|int take(int,int,int)|int three(int)"
+        + "|int times(int,int,int)|int trace(int)|int tray(int,int,int)|long number(int,int)|long set(int,int,long)"
+        + "|long table(int,int,int,int)|long turn(int,int,int,int,int,int)";
+
+    private LanguageRules() {
+    }
+
+    static void bannedWords(Due due) throws Exception {
+        String text = program();
+        for (String banned : BANNED) due.holds("the program has no " + banned, !Pattern.compile(banned).matcher(text).find());
+        for (int i = 0; i < text.length(); i++) if (text.charAt(i) > 126) due.holds("the program's signs are plain ones", false);
+    }
+
+    private static String program() throws Exception {
+        String whole = Files.readString(Path.of(System.getProperty("program")), StandardCharsets.UTF_8);
+        return whole.replaceAll("(?s)/\\*.*?\\*/", "").replaceAll("//[^\n]*", "");
+    }
+
+    static void publicFace(Due due) {
+        Set<String> made = new TreeSet<>();
+        for (Method method : WholeTurns.class.getDeclaredMethods()) {
+            if (Modifier.isPrivate(method.getModifiers()) || method.isSynthetic()) continue;
+            due.holds("public: " + method, Modifier.isPublic(method.getModifiers()) && !Modifier.isStatic(method.getModifiers()));
+            List<String> kinds = new ArrayList<>();
+            for (Class<?> kind : method.getParameterTypes()) kinds.add(kind.getName());
+            made.add(method.getReturnType() + " " + method.getName() + "(" + String.join(",", kinds) + ")");
+        }
+        Set<String> told = new TreeSet<>();
+        Collections.addAll(told, FACE.split("\\|"));
+        due.holds("the face is the document's, not " + made, made.equals(told));
+        Set<String> constants = new TreeSet<>();
+        for (Field field : WholeTurns.class.getDeclaredFields()) {
+            if (!Modifier.isPrivate(field.getModifiers())) constants.add(field.toString());
+        }
+        due.holds("four constants, not " + constants, constants.size() == 4);
+        due.holds("public final", WholeTurns.class.getModifiers() == (Modifier.PUBLIC | Modifier.FINAL));
+    }
+
+    static void innerClasses(Due due) {
+        Class<?>[] inside = WholeTurns.class.getDeclaredClasses();
+        due.holds("at most twelve classes", inside.length + 1 <= 12);
+        List<Class<?>> all = new ArrayList<>(List.of(inside));
+        for (Class<?> each : all) {
+            due.holds(each + " is static and not public", Modifier.isStatic(each.getModifiers()) && !Modifier.isPublic(each.getModifiers()));
+        }
+        all.add(WholeTurns.class);
+        Set<String> face = new TreeSet<>();
+        for (Method method : WholeTurns.class.getDeclaredMethods()) if (Modifier.isPublic(method.getModifiers())) face.add(method.getName());
+        for (Class<?> each : all) {
+            int fields = 0;
+            for (Field field : each.getDeclaredFields()) {
+                if (!Modifier.isStatic(field.getModifiers())) fields++;
+                else due.holds(field + " is final", Modifier.isFinal(field.getModifiers()));
+            }
+            due.holds(each + " has at most twenty fields", fields <= 20);
+            for (Method method : each.getDeclaredMethods()) {
+                due.holds(method + " has at most seven parameters", method.getParameterCount() <= 7);
+                boolean own = each == WholeTurns.class && Modifier.isPublic(method.getModifiers());
+                due.holds(method + " bears no name of the face", own || !face.contains(method.getName()));
+            }
+        }
+    }
+
+    /** A method begins at a row that ends with "{" and is indented as members are, and ends at "}" so indented. */
+    static void shortMethods(Due due) throws Exception {
+        String[] rows = program().split("\n");
+        Pattern begin = Pattern.compile("^(    |        )[^ ].*\\) \\{$");
+        int from = -1;
+        String indent = "";
+        for (int row = 0; row < rows.length; row++) {
+            Matcher matcher = begin.matcher(rows[row]);
+            if (from < 0 && matcher.matches()) {
+                from = row;
+                indent = matcher.group(1);
+            } else if (from >= 0 && rows[row].equals(indent + "}")) {
+                due.holds("at most sixty rows: " + rows[from].trim(), row - from < 60);
+                from = -1;
+            }
+        }
+    }
+}
