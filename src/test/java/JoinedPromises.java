@@ -1,3 +1,5 @@
+import java.util.Arrays;
+
 /** Promises 15 to 22: FOURS joined, divided and parted. */
 final class JoinedPromises {
     private JoinedPromises() {
@@ -273,22 +275,27 @@ final class JoinedPromises {
         associateIsTheGreatest(due);
     }
 
+    /** Of all FOURS of some NORMS. */
     private static void associateIsTheGreatest(Due due) {
-        long[][] some = {{-7, 3, 1, -5}, {0, 0, 0, -8}, {6, -2, -2, 0}, {-5, -5, -5, -1}, {2, 2, 0, 0}};
-        for (long[] four : some) {
-            for (int side = 0; side < 2; side++) {
-                WholeTurns x = Due.with(four[0], four[1], four[2], four[3]);
-                x.associate(1, 0, side);
-                long[] best = null;
-                for (int i = 0; i < 24; i++) {
-                    x.list(2, 1, i);
-                    x.times(3, side == 0 ? 2 : 0, side == 0 ? 0 : 2);
-                    long[] now = {x.number(3, 0), x.number(3, 1), x.number(3, 2), x.number(3, 3)};
-                    if (best == null || java.util.Arrays.compare(best, now) < 0) best = now;
-                }
-                due.numbers(x, 1, best[0], best[1], best[2], best[3]);
+        for (int n : new int[] {1, 2, 4, 7, 9}) {
+            for (int i = 0; i < new WholeTurns().many(n); i++) {
+                for (int side = 0; side < 2; side++) associateOfListed(due, n, i, side);
             }
         }
+    }
+
+    private static void associateOfListed(Due due, int n, int which, int side) {
+        WholeTurns x = new WholeTurns();
+        x.list(0, n, which);
+        x.associate(1, 0, side);
+        long[] best = null;
+        for (int i = 0; i < 24; i++) {
+            x.list(2, 1, i);
+            x.times(3, side == 0 ? 2 : 0, side == 0 ? 0 : 2);
+            long[] now = {x.number(3, 0), x.number(3, 1), x.number(3, 2), x.number(3, 3)};
+            if (best == null || Arrays.compare(best, now) < 0) best = now;
+        }
+        due.numbers(x, 1, best[0], best[1], best[2], best[3]);
     }
 
     static void promise21(Due due) {

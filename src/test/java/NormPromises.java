@@ -1,3 +1,5 @@
+import java.util.Arrays;
+
 /** Promises 23 to 26: all of a NORM. */
 final class NormPromises {
     private NormPromises() {
@@ -82,7 +84,7 @@ final class NormPromises {
             due.is("kind(0)", x.kind(0), kind);
             due.is("norm(0)", x.norm(0), n);
             long[] now = {x.number(0, 0), x.number(0, 1), x.number(0, 2), x.number(0, 3)};
-            due.holds("list(0, " + n + ", " + i + ") is above the one ahead", ahead == null || java.util.Arrays.compare(ahead, now) < 0);
+            due.holds("list(0, " + n + ", " + i + ") is above the one ahead", ahead == null || Arrays.compare(ahead, now) < 0);
             ahead = now;
         }
         due.is("list(0, " + n + ", " + count + ")", new WholeTurns().list(0, n, count), Due.NONE);
