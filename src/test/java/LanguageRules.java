@@ -14,6 +14,7 @@ import java.util.regex.Pattern;
 
 /** What of ../shared/LANGUAGE.md can be seen in the program's text and in the class that is made of it. */
 final class LanguageRules {
+    /** Some of these the rules would allow; the program does without them, and a text search can't tell where they would be fine. */
     private static final String[] BANNED = {"\\bthrow\\b", "\\bthrows\\b", "\\btry\\b", "\\bcatch\\b", "\\bsynchronized\\b", "\\bassert\\b",
         "->", "::", "\\bimport\\b", "\\bpackage\\b", "\\bprotected\\b", "\\bnative\\b", "\\bvolatile\\b", "\\btransient\\b",
         "Exact\\b", "\\bSystem\\.(?!arraycopy\\b)", "\\bhashCode\\b", "\\bequals\\b", "\\btoString\\b", "\\bstatic\\s*\\{", "@", "\"",
