@@ -8,7 +8,8 @@ import java.util.List;
 /** Runs each test of the project; its arguments are how many tests passed and failed ahead of it. */
 final class AllTests {
     private static final Class<?>[] TESTS = {TrayPromises.class, FourPromises.class, JoinedPromises.class, NormPromises.class,
-        TurnPromises.class, LanguageRules.class, RoomRuns.class, ModelRuns.class};
+        TurnPromises.class, TrayEdges.class, FourEdges.class, JoinedEdges.class, DivisionEdges.class, NormEdges.class,
+        TurnEdges.class, StatusEdges.class, LanguageRules.class, RoomRuns.class, ModelRuns.class};
 
     private AllTests() {
     }
