@@ -157,8 +157,8 @@ public final class WholeTurns {
         asks.forget();
         Four it = held(slot);
         if (it == null) return found(NULL);
-        if (what == 0) return answered(asks.sizeOf(it, kinds[slot]));
-        if (what == 1) return answered(asks.shareOf(it, kinds[slot]));
+        if (what == 0) return answered(asks.sizeOf(it.ownNorm(), kinds[slot]));
+        if (what == 1) return answered(asks.shareOf(it.ownNorm(), kinds[slot]));
         return answered(asks.markOf(it, kinds[slot]));
     }
 
@@ -939,15 +939,15 @@ public final class WholeTurns {
             count++;
         }
 
-        int sizeOf(Four it, int kind) {
+        int sizeOf(long norm, int kind) {
             if (kind == UNIT) return unitSize();
-            if (kind == PRIME) return primeSize(it);
-            return lentSize(it);
+            if (kind == PRIME) return primeSize(norm);
+            return lentSize(norm);
         }
 
-        private int lentSize(Four it) {
+        private int lentSize(long norm) {
             begin(10);
-            return (int) (it.ownNorm() % 1000003);
+            return (int) (norm % 1000003);
         }
 
         private int unitSize() {
@@ -955,14 +955,14 @@ public final class WholeTurns {
             return 1;
         }
 
-        private int primeSize(Four it) {
+        private int primeSize(long norm) {
             begin(12);
-            return lentSize(it) + 2;
+            return lentSize(norm) + 2;
         }
 
-        int shareOf(Four it, int kind) {
-            if (kind == UNIT) return unitShare(it, kind);
-            if (kind == PLAIN || kind == PRIME) return plainShare(it, kind);
+        int shareOf(long norm, int kind) {
+            if (kind == UNIT) return unitShare(norm, kind);
+            if (kind == PLAIN || kind == PRIME) return plainShare(norm, kind);
             if (kind == HALF) return halfShare();
             return fourShare();
         }
@@ -977,15 +977,15 @@ public final class WholeTurns {
             return fourShare() / 2;
         }
 
-        private int plainShare(Four it, int kind) {
+        private int plainShare(long norm, int kind) {
             begin(22);
             int share = fourShare();
-            return share + sizeOf(it, kind);
+            return share + sizeOf(norm, kind);
         }
 
-        private int unitShare(Four it, int kind) {
+        private int unitShare(long norm, int kind) {
             begin(23);
-            return plainShare(it, kind) / 5;
+            return plainShare(norm, kind) / 5;
         }
 
         int markOf(Four it, int kind) {

@@ -9,7 +9,8 @@ import java.util.List;
 final class AllTests {
     private static final Class<?>[] TESTS = {TrayPromises.class, FourPromises.class, JoinedPromises.class, NormPromises.class,
         TurnPromises.class, TrayEdges.class, FourEdges.class, JoinedEdges.class, DivisionEdges.class, NormEdges.class,
-        TurnEdges.class, StatusEdges.class, LanguageRules.class, RoomRuns.class, ModelRuns.class};
+        TurnEdges.class, StatusEdges.class, ByOtherCalls.class, LanguageRules.class, RoomRuns.class, ReadmeRuns.class,
+        ModelRuns.class};
 
     private AllTests() {
     }

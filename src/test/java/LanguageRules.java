@@ -6,7 +6,9 @@ import java.nio.file.Files;
 import java.nio.file.Path;
 import java.util.ArrayList;
 import java.util.Collections;
+import java.util.HashMap;
 import java.util.List;
+import java.util.Map;
 import java.util.Set;
 import java.util.TreeSet;
 import java.util.regex.Matcher;
@@ -83,6 +85,54 @@ final class LanguageRules {
                 due.holds(method + " bears no name of the face", own || !face.contains(method.getName()));
             }
         }
+    }
+
+    /** What rule 4 leaves of the library, as far as the program needs it. */
+    private static final Set<String> LIBRARY = Set.of("java/lang/Object.<init>()V", "java/lang/Math.abs(J)J", "java/lang/Math.floorDiv(JJ)J",
+        "java/lang/Math.floorMod(JJ)J", "java/lang/System.arraycopy(Ljava/lang/Object;ILjava/lang/Object;II)V");
+    private static final int DEEPEST = 8;
+
+    private static Map<String, ClassFile.Body> bodies() throws Exception {
+        Map<String, ClassFile.Body> bodies = new HashMap<>(ClassFile.bodies(WholeTurns.class));
+        for (Class<?> inside : WholeTurns.class.getDeclaredClasses()) bodies.putAll(ClassFile.bodies(inside));
+        return bodies;
+    }
+
+    static void onlyTheLibraryTold(Due due) throws Exception {
+        Map<String, ClassFile.Body> bodies = bodies();
+        for (String caller : bodies.keySet()) {
+            for (String called : bodies.get(caller).calls) due.holds(caller + " may call " + called, bodies.containsKey(called) || LIBRARY.contains(called));
+        }
+    }
+
+    static void nothingThrownNorCaught(Due due) throws Exception {
+        Map<String, ClassFile.Body> bodies = bodies();
+        for (String each : bodies.keySet()) {
+            due.holds(each + " throws nothing", !bodies.get(each).throwing);
+            due.holds(each + " catches nothing", !bodies.get(each).catching);
+        }
+    }
+
+    /** No method comes to itself again, and at most eight stand open at once, the library's own one with them. */
+    static void callsAtMostEightDeep(Due due) throws Exception {
+        Map<String, ClassFile.Body> bodies = bodies();
+        int deepest = 0;
+        for (String each : bodies.keySet()) {
+            int deep = deep(due, bodies, each, new ArrayList<>());
+            due.holds("at most eight deep: " + each + ", not " + deep, deep <= DEEPEST);
+            deepest = Math.max(deepest, deep);
+        }
+        due.holds("calls are seen at all", deepest > 1);
+    }
+
+    private static int deep(Due due, Map<String, ClassFile.Body> bodies, String method, List<String> open) {
+        due.holds("does not come to itself again: " + method, !open.contains(method));
+        if (!bodies.containsKey(method) || open.contains(method)) return 1;
+        open.add(method);
+        int deepest = 0;
+        for (String called : bodies.get(method).calls) deepest = Math.max(deepest, deep(due, bodies, called, open));
+        open.remove(method);
+        return deepest + 1;
     }
 
     /** A method begins at a row that ends with "{" and is indented as members are, and ends at "}" so indented. */
