@@ -1,10 +1,12 @@
 import java.lang.reflect.Field;
+import java.lang.reflect.InvocationTargetException;
 import java.lang.reflect.Method;
 import java.lang.reflect.Modifier;
 import java.nio.charset.StandardCharsets;
 import java.nio.file.Files;
 import java.nio.file.Path;
 import java.util.ArrayList;
+import java.util.Arrays;
 import java.util.Collections;
 import java.util.HashMap;
 import java.util.List;
@@ -133,6 +135,37 @@ final class LanguageRules {
         for (String called : bodies.get(method).calls) deepest = Math.max(deepest, deep(due, bodies, called, open));
         open.remove(method);
         return deepest + 1;
+    }
+
+    private static final int[] WILD = {Integer.MIN_VALUE, -1000001, -1, 0, 1, 2, 3, 5, 7, 8, 19, 20, 99, 100, 101, 150, 151, 1001, 1000001, Integer.MAX_VALUE};
+
+    /** No call ever throws: each number of each call in turn is a wild one, on a new object and on a full one. */
+    static void noCallThrows(Due due) throws Exception {
+        for (Method call : WholeTurns.class.getDeclaredMethods()) {
+            if (!Modifier.isPublic(call.getModifiers())) continue;
+            for (int fit = 0; fit < 5; fit++) {
+                for (int at = 0; at < Math.max(1, call.getParameterCount()); at++) wildCalls(due, call, fit, at);
+            }
+        }
+    }
+
+    private static void wildCalls(Due due, Method call, int fit, int at) throws Exception {
+        WholeTurns full = Bench.full(0);
+        for (int wild : WILD) {
+            Object[] numbers = new Object[call.getParameterCount()];
+            for (int i = 0; i < numbers.length; i++) {
+                int number = i == at ? wild : fit;
+                if (call.getParameterTypes()[i] == long.class) numbers[i] = (long) number << 31;
+                else numbers[i] = number;
+            }
+            for (WholeTurns x : new WholeTurns[] {new WholeTurns(), full}) {
+                try {
+                    call.invoke(x, numbers);
+                } catch (InvocationTargetException e) {
+                    due.holds(call.getName() + Arrays.toString(numbers) + " does not throw " + e.getCause(), false);
+                }
+            }
+        }
     }
 
     /** A method begins at a row that ends with "{" and is indented as members are, and ends at "}" so indented. */
